@@ -45,6 +45,7 @@ public final class PromisesTest {
         moveOpen();
         moveShut();
         size();
+        allApart();
         CHECK.end("PromisesTest");
     }
 
@@ -568,6 +569,8 @@ public final class PromisesTest {
         CHECK.refused("another gauge's highest", NSE, () -> x.highest(1));
         x.clear(2);
         CHECK.refused("highest after clear", NSE, () -> x.highest(2));
+        x.level(2, -8);
+        due("highest after clear is none of before", -8.0, x.highest(2));
         for (int g : NO_GAUGES) {
             CHECK.refused("highest of gauge " + g, IAE, () -> x.highest(g));
         }
@@ -590,6 +593,8 @@ public final class PromisesTest {
         CHECK.refused("another gauge's calmest", NSE, () -> x.calmest(3));
         x.clear(2);
         CHECK.refused("calmest after clear", NSE, () -> x.calmest(2));
+        x.wind(2, 199);
+        due("calmest after clear is none of before", 199.0f, x.calmest(2));
         for (int g : NO_GAUGES) {
             CHECK.refused("calmest of gauge " + g, IAE, () -> x.calmest(g));
         }
@@ -721,6 +726,44 @@ public final class PromisesTest {
         for (int what : NO_WHATS) {
             CHECK.refused("size of what " + what, IAE, () -> x.size(3, what));
         }
+    }
+
+    /** With every strip full, every mark SET and both probes numbers, none changes another. */
+    private static void allApart() {
+        HarbourBoard x = new HarbourBoard();
+        x.probe(-700);
+        x.probeWind(77);
+        for (int g = 0; g < 6; g++) {
+            due("LOW is new", false, x.mark(g, 0, 100 * g + 11.5));
+            due("HIGH is new", false, x.mark(g, 1, 100 * g + 12.5));
+            due("GALE is new", false, x.gale(g, 10 * g + 11));
+        }
+        for (int g = 0; g < 6; g++) {
+            for (int i = 0; i < 12; i++) {
+                x.level(g, 100 * g + i + 1);
+                x.wind(g, 10 * g + 12 - i);
+            }
+        }
+        due("the probe of levels stays", 0, x.count(0, 0, 0, false));
+        for (int g = 0; g < 6; g++) {
+            due("highest of all", 100.0 * g + 12, x.highest(g));
+            due("calmest of all", 10.0f * g + 1, x.calmest(g));
+            due("stand of all", 16, x.stand(g));
+            due("order of all", 5 - g, x.order(g));
+            due("the probe of levels stays", 12, x.count(g, 0, 2, false));
+            due("the probe of winds stays", 12, x.count(g, 1, 0, false));
+        }
+        due("the probe of levels goes alone", 1, x.probe(312));
+        due("the probe of winds stays", 12, x.count(5, 1, 0, false));
+        due("GALE stays", 16, x.stand(5));
+        for (int g = 0; g < 6; g++) {
+            for (int mark = 0; mark < 3; mark++) {
+                due("each mark was SET", true, x.lift(g, mark));
+            }
+            due("the marks of others stay", g == 5 ? 5 : 16, x.stand(5));
+        }
+        due("the probe of levels stays", 1, x.count(3, 0, 4, false));
+        due("the probe of winds stays", 12, x.count(5, 1, 0, false));
     }
 
     private static void due(String call, Object want, Object got) {
