@@ -7,12 +7,18 @@ final class Check {
 
     private int wrong = 0;
     private int asked = 0;
+    private String sentence = "";
+
+    /** The document's words that the next answers are asked about; what is not as due is told under them. */
+    void sentence(String words) {
+        sentence = "\"" + words + "\": ";
+    }
 
     void due(String call, Object want, Object got) {
         asked++;
         if (!want.equals(got)) {
             wrong++;
-            System.out.println(call + " answered " + got + ", due is " + want);
+            System.out.println(sentence + call + " answered " + got + ", due is " + want);
         }
     }
 

@@ -9,8 +9,8 @@ public final class ModelTest {
     private static final int BOARDS = 4000;
     private static final int CALLS = 512;
     private static final double[] LEVELS = {
-        -1000, 1000, 0.0, -0.0, 1, 2, 3, 0.5, -1, Double.NaN, 1000.0000001, -1000.0000001, Double.POSITIVE_INFINITY,
-        Double.NEGATIVE_INFINITY};
+        -1000, 1000, 0.0, -0.0, 1, Math.nextUp(1.0), 2, 3, -1, Double.NaN, 1000.0000001, -1000.0000001,
+        Double.POSITIVE_INFINITY, Double.NEGATIVE_INFINITY};
     private static final float[] WINDS = {
         0.0f, -0.0f, 200, 1, 2, 3, 0.5f, 0.1f, 150, Float.NaN, 200.00002f, -Float.MIN_VALUE, Float.POSITIVE_INFINITY,
         Float.NEGATIVE_INFINITY};

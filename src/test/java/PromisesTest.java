@@ -2,21 +2,11 @@ import java.util.NoSuchElementException;
 
 /** Each promise by hand: ordinary inputs, the document's edges, wrong inputs. */
 public final class PromisesTest {
-    private static final Class<IllegalArgumentException> IAE = IllegalArgumentException.class;
-    private static final Class<IllegalStateException> ISE = IllegalStateException.class;
-    private static final Class<UnsupportedOperationException> UOE = UnsupportedOperationException.class;
-    private static final Class<ArithmeticException> AE = ArithmeticException.class;
-    private static final Class<NoSuchElementException> NSE = NoSuchElementException.class;
-
-    private static final int[] NO_GAUGES = {-1, 6, 7, 12, Integer.MIN_VALUE, Integer.MAX_VALUE};
-    private static final int[] NO_WHATS = {-1, 2, 3, Integer.MIN_VALUE, Integer.MAX_VALUE};
-    private static final int[] NO_RELATIONS = {-1, 6, 7, Integer.MIN_VALUE, Integer.MAX_VALUE};
-    private static final double[] NO_LEVELS = {
-        Double.NaN, Double.POSITIVE_INFINITY, Double.NEGATIVE_INFINITY, Double.MAX_VALUE, -Double.MAX_VALUE,
-        Math.nextUp(1000.0), Math.nextDown(-1000.0), 1001, -1001};
-    private static final float[] NO_WINDS = {
-        Float.NaN, Float.POSITIVE_INFINITY, Float.NEGATIVE_INFINITY, Float.MAX_VALUE, -Float.MAX_VALUE,
-        Math.nextUp(200.0f), -Float.MIN_VALUE, -1, 201};
+    private static final Class<IllegalArgumentException> IAE = Inputs.IAE;
+    private static final Class<IllegalStateException> ISE = Inputs.ISE;
+    private static final Class<UnsupportedOperationException> UOE = Inputs.UOE;
+    private static final Class<ArithmeticException> AE = Inputs.AE;
+    private static final Class<NoSuchElementException> NSE = Inputs.NSE;
 
     private static final Check CHECK = new Check();
 
@@ -36,6 +26,7 @@ public final class PromisesTest {
         count();
         holds();
         pick();
+        refusedOfPairs();
         standOfLevels();
         standOfWinds();
         order();
@@ -85,10 +76,10 @@ public final class PromisesTest {
         CHECK.refused("level 13 of no level", IAE, () -> x.level(0, 1000.5));
         due("a full strip stays", 12, x.size(0, 0));
         due("a full strip's latest stays", 1, x.probe(12));
-        for (int g : NO_GAUGES) {
+        for (int g : Inputs.NO_GAUGES) {
             CHECK.refused("level of gauge " + g, IAE, () -> x.level(g, 1));
         }
-        for (double v : NO_LEVELS) {
+        for (double v : Inputs.NO_LEVELS) {
             CHECK.refused("level " + v, IAE, () -> x.level(1, v));
         }
         due("refused levels leave nothing", 0, x.size(1, 0));
@@ -110,10 +101,10 @@ public final class PromisesTest {
         CHECK.refused("wind 13 of no wind", IAE, () -> x.wind(0, -1));
         due("levels still have room", 1, x.level(0, 1));
         due("a full strip's latest stays", 1, x.probeWind(12));
-        for (int g : NO_GAUGES) {
+        for (int g : Inputs.NO_GAUGES) {
             CHECK.refused("wind of gauge " + g, IAE, () -> x.wind(g, 1));
         }
-        for (float v : NO_WINDS) {
+        for (float v : Inputs.NO_WINDS) {
             CHECK.refused("wind " + v, IAE, () -> x.wind(1, v));
         }
         due("refused winds leave nothing", 0, x.size(1, 1));
@@ -130,10 +121,10 @@ public final class PromisesTest {
             due("a full strip stays", 12, x.size(3, what));
         }
         CHECK.refused("a level behind 12 OUT", ISE, () -> x.level(3, 0));
-        for (int g : NO_GAUGES) {
+        for (int g : Inputs.NO_GAUGES) {
             CHECK.refused("out of gauge " + g, IAE, () -> x.out(g, 0));
         }
-        for (int what : NO_WHATS) {
+        for (int what : Inputs.NO_WHATS) {
             CHECK.refused("out of what " + what, IAE, () -> x.out(3, what));
         }
         due("OUT is latest", false, latestIsNumber(x, 3));
@@ -167,7 +158,7 @@ public final class PromisesTest {
         due("marks stay", true, x.lift(2, 0));
         due("marks stay", true, x.lift(2, 2));
         due("the latest of an emptied strip is OUT", false, latestIsNumber(x, 2));
-        for (int g : NO_GAUGES) {
+        for (int g : Inputs.NO_GAUGES) {
             CHECK.refused("clear of gauge " + g, IAE, () -> x.clear(g));
         }
     }
@@ -179,13 +170,13 @@ public final class PromisesTest {
         due("mark HIGH", false, x.mark(0, 1, 0));
         due("mark HIGH again", true, x.mark(0, 1, 0));
         due("mark of another gauge", false, x.mark(5, 0, 0));
-        for (int g : NO_GAUGES) {
+        for (int g : Inputs.NO_GAUGES) {
             CHECK.refused("mark of gauge " + g, IAE, () -> x.mark(g, 0, 1));
         }
-        for (int mark : new int[] {-1, 2, 3, Integer.MIN_VALUE, Integer.MAX_VALUE}) {
+        for (int mark : Inputs.NO_LEVEL_MARKS) {
             CHECK.refused("mark " + mark, IAE, () -> x.mark(4, mark, 1));
         }
-        for (double v : NO_LEVELS) {
+        for (double v : Inputs.NO_LEVELS) {
             CHECK.refused("mark " + v, IAE, () -> x.mark(4, 0, v));
         }
         due("a refused mark is not SET", false, x.lift(4, 0));
@@ -199,10 +190,10 @@ public final class PromisesTest {
         due("gale of another gauge", false, x.gale(5, 1));
         due("LOW is apart", false, x.lift(0, 0));
         due("HIGH is apart", false, x.lift(0, 1));
-        for (int g : NO_GAUGES) {
+        for (int g : Inputs.NO_GAUGES) {
             CHECK.refused("gale of gauge " + g, IAE, () -> x.gale(g, 1));
         }
-        for (float v : NO_WINDS) {
+        for (float v : Inputs.NO_WINDS) {
             CHECK.refused("gale " + v, IAE, () -> x.gale(4, v));
         }
         due("a refused gale is not SET", false, x.lift(4, 2));
@@ -219,10 +210,10 @@ public final class PromisesTest {
             due("lift again", false, x.lift(1, mark));
         }
         due("mark after lift", false, x.mark(1, 1, 3));
-        for (int g : NO_GAUGES) {
+        for (int g : Inputs.NO_GAUGES) {
             CHECK.refused("lift of gauge " + g, IAE, () -> x.lift(g, 0));
         }
-        for (int mark : new int[] {-1, 3, 4, Integer.MIN_VALUE, Integer.MAX_VALUE}) {
+        for (int mark : Inputs.NO_MARKS) {
             CHECK.refused("lift of mark " + mark, IAE, () -> x.lift(1, mark));
         }
     }
@@ -245,7 +236,7 @@ public final class PromisesTest {
         due("probe at the edge", 0, x.probe(1000));
         due("probe at the edge", 0, x.probe(-1000));
         x.probe(5);
-        for (double v : NO_LEVELS) {
+        for (double v : Inputs.NO_LEVELS) {
             CHECK.refused("probe " + v, IAE, () -> x.probe(v));
         }
         due("a refused probe stays", 1, x.count(0, 0, 4, false));
@@ -272,7 +263,7 @@ public final class PromisesTest {
         due("both zeros are equal", 2, x.probeWind(-0.0f));
         due("probeWind at the edge", 0, x.probeWind(200));
         x.probeWind(5);
-        for (float v : NO_WINDS) {
+        for (float v : Inputs.NO_WINDS) {
             CHECK.refused("probeWind " + v, IAE, () -> x.probeWind(v));
         }
         due("a refused probe stays", 1, x.count(0, 1, 4, false));
@@ -294,7 +285,7 @@ public final class PromisesTest {
         due("what is OUT is unlike all", 6, x.probeOut(1));
         due("the probe of winds is OUT", 0, x.count(0, 1, 4, false));
         x.probe(5);
-        for (int what : NO_WHATS) {
+        for (int what : Inputs.NO_WHATS) {
             CHECK.refused("probeOut of what " + what, IAE, () -> x.probeOut(what));
         }
         due("a refused probeOut changes nothing", 1, x.count(0, 0, 4, false));
@@ -340,15 +331,15 @@ public final class PromisesTest {
 
     private static void refusedOfStrips(HarbourBoard x) {
         for (boolean flag : new boolean[] {false, true}) {
-            for (int g : NO_GAUGES) {
+            for (int g : Inputs.NO_GAUGES) {
                 CHECK.refused("run of gauge " + g, IAE, () -> x.run(g, 0, 0, flag));
                 CHECK.refused("count of gauge " + g, IAE, () -> x.count(g, 0, 0, flag));
             }
-            for (int what : NO_WHATS) {
+            for (int what : Inputs.NO_WHATS) {
                 CHECK.refused("run of what " + what, IAE, () -> x.run(0, what, 0, flag));
                 CHECK.refused("count of what " + what, IAE, () -> x.count(0, what, 0, flag));
             }
-            for (int relation : NO_RELATIONS) {
+            for (int relation : Inputs.NO_RELATIONS) {
                 CHECK.refused("run of relation " + relation, IAE, () -> x.run(0, 0, relation, flag));
                 CHECK.refused("count of relation " + relation, IAE, () -> x.count(0, 0, relation, flag));
             }
@@ -403,15 +394,24 @@ public final class PromisesTest {
                 holdsAll(x, outed, g, "000001");
             }
         }
-        for (int g : NO_GAUGES) {
+    }
+
+    /** On a board of its own: with what was asked before it would have more than 512 calls. */
+    private static void refusedOfPairs() {
+        HarbourBoard x = filled();
+        for (int g : Inputs.NO_GAUGES) {
             CHECK.refused("holds of gauge " + g, IAE, () -> x.holds(g, 0, 0, 0));
             CHECK.refused("holds to gauge " + g, IAE, () -> x.holds(0, g, 0, 0));
+            CHECK.refused("pick of gauge " + g, IAE, () -> x.pick(g, 0, 0, 0));
+            CHECK.refused("pick or gauge " + g, IAE, () -> x.pick(0, g, 0, 0));
         }
-        for (int what : NO_WHATS) {
+        for (int what : Inputs.NO_WHATS) {
             CHECK.refused("holds of what " + what, IAE, () -> x.holds(0, 0, what, 0));
+            CHECK.refused("pick of what " + what, IAE, () -> x.pick(0, 0, what, 0));
         }
-        for (int relation : NO_RELATIONS) {
+        for (int relation : Inputs.NO_RELATIONS) {
             CHECK.refused("holds of relation " + relation, IAE, () -> x.holds(0, 0, 0, relation));
+            CHECK.refused("pick of relation " + relation, IAE, () -> x.pick(0, 0, 0, relation));
         }
     }
 
@@ -436,16 +436,6 @@ public final class PromisesTest {
                 pickAll(x, g, outed, new int[] {none, none, none, none, none, g});
                 pickAll(x, outed, g, new int[] {none, none, none, none, none, outed});
             }
-        }
-        for (int g : NO_GAUGES) {
-            CHECK.refused("pick of gauge " + g, IAE, () -> x.pick(g, 0, 0, 0));
-            CHECK.refused("pick or gauge " + g, IAE, () -> x.pick(0, g, 0, 0));
-        }
-        for (int what : NO_WHATS) {
-            CHECK.refused("pick of what " + what, IAE, () -> x.pick(0, 0, what, 0));
-        }
-        for (int relation : NO_RELATIONS) {
-            CHECK.refused("pick of relation " + relation, IAE, () -> x.pick(0, 0, 0, relation));
         }
     }
 
@@ -492,7 +482,7 @@ public final class PromisesTest {
         due("stand OUT with marks", 1, x.stand(5));
         x.clear(5);
         due("stand empty with marks", 0, x.stand(5));
-        for (int g : NO_GAUGES) {
+        for (int g : Inputs.NO_GAUGES) {
             CHECK.refused("stand of gauge " + g, IAE, () -> x.stand(g));
         }
     }
@@ -539,7 +529,7 @@ public final class PromisesTest {
         x.out(5, 0);
         x.clear(2);
         orderAll(x, 4, 0, 3, 1, 2, 5);
-        for (int k : NO_GAUGES) {
+        for (int k : Inputs.NO_GAUGES) {
             CHECK.refused("order of " + k, IAE, () -> x.order(k));
         }
     }
@@ -571,7 +561,7 @@ public final class PromisesTest {
         CHECK.refused("highest after clear", NSE, () -> x.highest(2));
         x.level(2, -8);
         due("highest after clear is none of before", -8.0, x.highest(2));
-        for (int g : NO_GAUGES) {
+        for (int g : Inputs.NO_GAUGES) {
             CHECK.refused("highest of gauge " + g, IAE, () -> x.highest(g));
         }
     }
@@ -595,7 +585,7 @@ public final class PromisesTest {
         CHECK.refused("calmest after clear", NSE, () -> x.calmest(2));
         x.wind(2, 199);
         due("calmest after clear is none of before", 199.0f, x.calmest(2));
-        for (int g : NO_GAUGES) {
+        for (int g : Inputs.NO_GAUGES) {
             CHECK.refused("calmest of gauge " + g, IAE, () -> x.calmest(g));
         }
     }
@@ -626,7 +616,7 @@ public final class PromisesTest {
         x.level(4, 1);
         x.level(5, 2);
         sameBoth(x, 4, 5, 0);
-        for (int g : NO_GAUGES) {
+        for (int g : Inputs.NO_GAUGES) {
             CHECK.refused("same of gauge " + g, IAE, () -> x.same(g, 0));
             CHECK.refused("same and gauge " + g, IAE, () -> x.same(0, g));
         }
@@ -720,10 +710,10 @@ public final class PromisesTest {
         due("size of winds", 1, x.size(3, 1));
         due("size of another", 0, x.size(2, 0));
         due("size of another", 0, x.size(4, 0));
-        for (int g : NO_GAUGES) {
+        for (int g : Inputs.NO_GAUGES) {
             CHECK.refused("size of gauge " + g, IAE, () -> x.size(g, 0));
         }
-        for (int what : NO_WHATS) {
+        for (int what : Inputs.NO_WHATS) {
             CHECK.refused("size of what " + what, IAE, () -> x.size(3, what));
         }
     }
