@@ -58,6 +58,7 @@ public final class PromisesEdgesTest {
         sameNone();
         sameItself();
         moveCounts();
+        moveLeavesAllElse();
         moveSoAlready();
         openNotAbove();
         openInGale();
@@ -177,7 +178,14 @@ public final class PromisesEdgesTest {
             fill(x, g, 0, 2);
             fill(x, g, 1, 3);
         }
+        for (int mark = 0; mark < 2; mark++) {
+            x.mark(3, mark, 5);
+        }
+        x.gale(3, 5);
         due("clear of gauge 3", 5, x.clear(3));
+        for (int mark = 0; mark < 3; mark++) {
+            due("mark " + mark + " stays", true, x.lift(3, mark));
+        }
         for (int g = 0; g < 6; g++) {
             due("levels of gauge " + g, g == 3 ? 0 : 2, x.size(g, 0));
             due("winds of gauge " + g, g == 3 ? 0 : 3, x.size(g, 1));
@@ -896,6 +904,30 @@ public final class PromisesEdgesTest {
         x.clear(0);
         x.clear(1);
         due("shuts, with all cleared", 4, x.move(false));
+    }
+
+    private static void moveLeavesAllElse() {
+        CHECK.sentence("The gate opens (open) or shuts: how often it did either so far.");
+        for (boolean alsoShut : new boolean[] {false, true}) {
+            HarbourBoard x = marked();
+            x.mark(0, 1, -1000);
+            x.level(0, 0);
+            x.level(1, -1);
+            x.wind(1, 0);
+            x.gale(1, 1);
+            x.probe(0);
+            x.probeWind(0);
+            x.move(true);
+            if (alsoShut) {
+                x.move(false);
+            }
+            for (int i = 0; i < 18; i++) {
+                due("mark " + i % 3 + " of gauge " + i / 3 + " stays", true, x.lift(i / 3, i % 3));
+            }
+            due("the probe of levels stays, and INSIDE's level", 1, x.count(0, 0, 4, false));
+            due("the probe of levels stays, and OUTSIDE's level", 1, x.count(1, 0, 0, false));
+            due("the probe of winds stays, and OUTSIDE's wind", 1, x.count(1, 1, 4, false));
+        }
     }
 
     private static void moveSoAlready() {
